@@ -126,6 +126,7 @@ public final class PromisesTest {
         due("end(-1)", x.end(-1), NONE);
         due("end(2401)", x.end(2401), NONE);
         due("count(7)", x.count(7), 2400);
+        due("end(2400)", x.end(2400), 2400);
         due("end(2399)", x.end(2399), 2399);
         promise = 4;
         due("square() of blanks", x.square(), 0);
@@ -150,8 +151,15 @@ public final class PromisesTest {
         due("square() of the TAPE that stayed", x.square(), 1);
         due("count(2)", x.count(2), 7);
         due("square() of nothing", x.square(), 0);
-        due("count(2)", x.count(2), 0);
+        for (int i = 0; i < 7; i++) {
+            due("count(" + i + ")", x.count(i), 0);
+        }
         due("courses()", x.courses(), -2);
+        promise = 3;
+        x.feed(0, 0, 0, 0, 0);
+        due("end(0)", x.end(0), 0);
+        due("count(7)", x.count(7), 0);
+        due("end(0) again", x.end(0), 0);
         promise = 46;
         UnseenClock y = of(PLAZA);
         int[] counts = {5, 4, 6, 2, 2, 1, 13, 0, 0, 0};
@@ -196,6 +204,8 @@ public final class PromisesTest {
         faultDue(S + S, 1, 31);
         faultDue(S + ";", 1, 31);
         faultDue(S + "tree at 1 1;", 1, 31);
+        faultDue(S + "ball at 1 1;", 1, 31);
+        faultDue(S + "wallz at 1 1;", 1, 31);
         faultDue(S + "wall at 5 0;", 2, 39);
         faultDue(S + "wall at 4 4;", 2, 41);
         faultDue(S + "wall at 4 3 3;", 1, 43);
@@ -238,6 +248,7 @@ public final class PromisesTest {
         faultDue(c + "look at 0 unless 8;", 2, 111);
         faultDue(c + "look at 0 maybe 101;", 2, 110);
         faultDue(c + "look at 0 each 40 after 39;look at 0 seeing 0 is 59;look at 0 with 7;look at 0 maybe 100;", 0, NONE);
+        faultDue(c + "look at 0 each 1 after 0;", 0, NONE);
         faultDue(c + "look at 0 unless 7;go east 1;look at 0 maybe 0;wait 1;", 0, NONE);
         x = new UnseenClock();
         put(x, S + "\u00e9");
@@ -304,6 +315,13 @@ public final class PromisesTest {
         z.call(0, true);
         due("meets(0, 1), CALLED away", z.meets(0, 1), 3);
         due("meets(0, 2)", z.meets(0, 2), 0);
+        UnseenClock near = of("square wide 9 long 9 minutes 8;person at 1 1 from 0;wait 7;person at 0 0 from 0;person at 1 3 from 0;go north 1;go south 1;person at 2 1 from 7;person at 5 5 from 0;wait 7;");
+        due("meets(0, 1), slanting, in the first MINUTE", near.meets(0, 1), 1);
+        due("meets(1, 0)", near.meets(1, 0), 1);
+        due("meets(0, 2), two rows on at first and at last", near.meets(0, 2), 1);
+        due("meets(0, 3), side by side, in the last MINUTE", near.meets(0, 3), 1);
+        due("meets(0, 4)", near.meets(0, 4), 0);
+        due("meets(1, 3)", near.meets(1, 3), 0);
         due("meets(0, 0)", z.meets(0, 0), -2);
         due("meets(0, 3)", z.meets(0, 3), -2);
         due("meets(-1, 0)", z.meets(-1, 0), -2);
@@ -396,6 +414,7 @@ public final class PromisesTest {
         promise = 15;
         due("bell(1, 8)", x.bell(1, 8), 2);
         due("bell(1, 4)", x.bell(1, 4), 0);
+        due("bell(1, 0)", x.bell(1, 0), 1);
         due("bell(2, 4)", x.bell(2, 4), NONE);
         due("bell(1, 59)", x.bell(1, 59), NONE);
         due("bell(4, 8)", x.bell(4, 8), NONE);
@@ -407,6 +426,10 @@ public final class PromisesTest {
         due("bell(2, 4)", two.bell(2, 4), 4);
         due("bell(3, 4)", two.bell(3, 4), 4);
         due("bell(1, 5)", two.bell(1, 5), 5);
+        promise = 12;
+        due("still(0, 0), never looked at", two.still(0, 0), 0);
+        due("still(0, 1), never looked at", two.still(0, 1), 0);
+        due("still(0, 2), never looked at", two.still(0, 2), 0);
         promise = 31;
         due("when(0, 8)", x.when(0, 8), 2);
         due("when(1, 4)", x.when(1, 4), 0);
@@ -486,6 +509,15 @@ public final class PromisesTest {
         UnseenClock many = of(selves(8));
         due("courses()", many.courses(), -3);
         due("courses(), no SQUARE", new UnseenClock().courses(), -2);
+        StringBuilder crowd = new StringBuilder("square wide 3 long 3 minutes 40;clock at 1 1 pace 1 over 1 shows 60 from 0;");
+        for (int i = 0; i < 8; i++) {
+            crowd.append("person at 0 0 from 0;wait 40;look at 0 with ").append(i).append(";");
+        }
+        UnseenClock crowded = of(crowd.toString());
+        due("open() of a crowd", crowded.open(), 320);
+        due("opens(319) of a crowd", crowded.opens(319), 3970);
+        due("opens(320) of a crowd", crowded.opens(320), NONE);
+        due("courses() of a crowd", crowded.courses(), -3);
         // taken as yes, the first look of the first MINUTE settles the others of all MINUTES
         UnseenClock seen = of("square wide 3 long 3 minutes 5;clock at 1 1 pace 1 over 1 shows 60 from 0;person at 0 0 from 0;wait 4;look at 0 with 0;look at 0 seeing 0 is 0;");
         due("courses()", seen.courses(), 17);
@@ -616,6 +648,7 @@ public final class PromisesTest {
         due("knows(0, 1, 5)", y.knows(0, 1, 5), NONE);
         due("common(1, 0, 5)", y.common(1, 0, 5), 5);
         due("common(3, 0, 5)", y.common(3, 0, 5), NONE);
+        due("common(3, 1, 5)", y.common(3, 1, 5), NONE);
         due("common(3, 0, 0)", y.common(3, 0, 0), 0);
         promise = 26;
         due("both(0, 1, 0, 5)", y.both(0, 1, 0, 5), 5);
@@ -715,6 +748,9 @@ public final class PromisesTest {
         due("hush(1, 8, 1, 1)", x.hush(1, 8, 1, 1), 2);
         due("hush(1, 8, 2, 0)", x.hush(1, 8, 2, 0), 0);
         due("hush(2, 4, 6, 1)", x.hush(2, 4, 6, 1), NONE);
+        due("hush(1, 5, 5, 0), all to be away", y.hush(1, 5, 5, 0), 3);
+        due("hush(1, 5, 5, 1), all to be away", y.hush(1, 5, 5, 1), 7);
+        due("hush(1, 0, 0, 0)", y.hush(1, 0, 0, 0), 0);
         due("hush(5, 4, 6, 1)", x.hush(5, 4, 6, 1), -2);
         due("hush(0, 4, 6, 1)", x.hush(0, 4, 6, 1), -2);
         due("hush(1, 60, 6, 1)", x.hush(1, 60, 6, 1), -2);
@@ -789,6 +825,9 @@ public final class PromisesTest {
         UnseenClock z = of("square wide 3 long 3 minutes 6;clock at 0 0 pace 1 over 1 shows 5 from 0;clock at 2 2 pace 2 over 1 shows 5 from 1;");
         due("all(2, 6, 3)", z.all(2, 6, 3), NONE);
         due("all(2, 6, 4)", z.all(2, 6, 4), 2);
+        due("all(1, 2, 0)", z.all(1, 2, 0), 0);
+        due("all(1, 2, 1)", z.all(1, 2, 1), 1);
+        due("all(1, 3, 0), always kept", of("square wide 2 long 2 minutes 5;clock at 0 0 pace 1 over 1 shows 9 from 0;").all(1, 3, 0), 3);
         due("all(0, 6, 4)", z.all(0, 6, 4), -2);
         due("all(5, 6, 4)", z.all(5, 6, 4), -2);
         due("all(4, 6, 4)", z.all(4, 6, 4), NONE);
