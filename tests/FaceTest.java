@@ -61,14 +61,22 @@ public final class FaceTest {
         for (Field f : main.getDeclaredFields()) {
             boolean none = f.getName().equals("NONE") && Modifier.isPublic(f.getModifiers()) && f.getInt(null) == -1;
             due(none || Modifier.isPrivate(f.getModifiers()), "not of the face: " + f);
-            due(!Modifier.isStatic(f.getModifiers()) || Modifier.isFinal(f.getModifiers()), "a static field that is not final: " + f);
+            checkStatic(f);
         }
         due(main.getDeclaredClasses().length <= 12, "too many classes");
         for (Class<?> inside : main.getDeclaredClasses()) {
             due(Modifier.isStatic(inside.getModifiers()) && !Modifier.isPublic(inside.getModifiers()), "a class inside is static and not public: " + inside);
             long fields = Arrays.stream(inside.getDeclaredFields()).filter(f -> !Modifier.isStatic(f.getModifiers())).count();
             due(fields <= 20, "too many fields: " + inside);
+            for (Field f : inside.getDeclaredFields()) checkStatic(f);
         }
+    }
+
+    private static void checkStatic(Field f) {
+        if (!Modifier.isStatic(f.getModifiers())) return;
+        due(Modifier.isFinal(f.getModifiers()), "a static field that is not final: " + f);
+        Set<Class<?>> kinds = Set.of(int.class, long.class, boolean.class, char.class, String.class, int[].class, long[].class, char[].class, byte[].class);
+        due(kinds.contains(f.getType()), "a static field of another type: " + f);
     }
 
     private static void checkText(String source) {

@@ -49,9 +49,9 @@ public final class UnseenClock {
         0xFC0000, 0xFC003F, 0xFC0FC0, 0xFC0FFF, 0xFFF000, 0xFFF03F, 0xFFFFC0, 0xFFFFFF
     };
 
-    private static final byte FREE_CELL = 0;
-    private static final byte WALL_CELL = 1;
-    private static final byte CLOCK_CELL = 2;
+    private static final int FREE_CELL = 0;
+    private static final int WALL_CELL = 1;
+    private static final int CLOCK_CELL = 2;
 
     private static final int NORTH = 0;
     private static final int EAST = 1;
@@ -543,20 +543,26 @@ public final class UnseenClock {
         if (noSquare() || noBell(m, h) || noMoment(minute) || what < 0 || what > 1) {
             return NO_SUCH;
         }
+        int set = fewestAway(NONE, m, minute, h);
+        return set == NONE || what == 1 ? set : Integer.bitCount(set);
+    }
+
+    /** Which PEOPLE: the fewest, of several sets the least bits; a clock of NONE asks for BELL by so many CLOCKS. */
+    private int fewestAway(int clock, int clocks, int minute, int h) {
         for (int size = 0; size <= plan.people; size++) {
             for (int set = 0; set < 1 << plan.people; set++) {
-                if (Integer.bitCount(set) == size && bellsWithout(set, m, h, minute)) {
-                    return what == 0 ? size : set;
+                if (Integer.bitCount(set) != size) {
+                    continue;
+                }
+                trial.prepare(plan, set);
+                trial.runTo(minute);
+                boolean so = clock == NONE ? trial.firstBell(clocks, h, minute) != NONE : trial.hour(clock, minute) == h;
+                if (so) {
+                    return set;
                 }
             }
         }
         return NONE;
-    }
-
-    private boolean bellsWithout(int set, int clocks, int h, int minute) {
-        trial.prepare(plan, set);
-        trial.runTo(minute);
-        return trial.firstBell(clocks, h, minute) != NONE;
     }
 
     public int call(int person, boolean away) {
@@ -577,20 +583,8 @@ public final class UnseenClock {
         if (noClockThen(clock, minute) || what < 0 || what > 1) {
             return NO_SUCH;
         }
-        for (int size = 0; size <= plan.people; size++) {
-            for (int set = 0; set < 1 << plan.people; set++) {
-                if (Integer.bitCount(set) == size && showsWithout(set, clock, minute, h)) {
-                    return what == 0 ? size : set;
-                }
-            }
-        }
-        return NONE;
-    }
-
-    private boolean showsWithout(int set, int clock, int minute, int h) {
-        trial.prepare(plan, set);
-        trial.runTo(minute);
-        return trial.hour(clock, minute) == h;
+        int set = fewestAway(clock, 1, minute, h);
+        return set == NONE || what == 1 ? set : Integer.bitCount(set);
     }
 
     // ---- keepers ----
@@ -924,7 +918,7 @@ public final class UnseenClock {
             clocks = 0;
             people = 0;
             away = 0;
-            Arrays.fill(cell, FREE_CELL);
+            Arrays.fill(cell, (byte) FREE_CELL);
         }
 
         void copyFrom(Plan other) {
@@ -954,9 +948,9 @@ public final class UnseenClock {
             return isInside(x, y) && cell[y * MOST_SIDE + x] == FREE_CELL;
         }
 
-        void fillCell(int x, int y, byte kind) {
+        void fillCell(int x, int y, int kind) {
             if (isInside(x, y)) {
-                cell[y * MOST_SIDE + x] = kind;
+                cell[y * MOST_SIDE + x] = (byte) kind;
             }
         }
 
