@@ -147,6 +147,7 @@ public final class CallBoundaryTest {
     }
 
     private static void refusals() throws Exception {
+        firstMoment();
         bounds("Where a PERSON is in a MINUTE: X and 100 Y; NONE: not there (CALLED away, too). -2: there are none such.", "at", "PM", 0, 0);
         bounds("Whether a PERSON SEES a CLOCK in a MINUTE: 1, 0. -2: there are none such.", "sees", "PCM", 0, 0, 0);
         bounds("Whether he looks at it (PLAIN course): 1, 0; 2: that was OPEN (no). -2 likewise.", "looks", "PCM", 0, 0, 0);
@@ -200,6 +201,28 @@ public final class CallBoundaryTest {
         bounds("On a day drawn from a seed (0 .. 2,000,000,000) (VI) what a CLOCK SHOWS as a MINUTE begins. -2: there are none such.", "day", "DCE", 0, 0, 0);
         bounds("Of n such days (1 .. 20) from seeds, the seed and 1, .., on how many it SHOWS h. -2 likewise.", "days", "DTCE*", 0, 1, 0, 0, 11);
         nowhere(0, "days", 4, 0, 20, 0, 7, 0);
+    }
+
+    /** What is asked for as MINUTE 0 begins is what was told, though nothing has been asked ahead, and though another SQUARE was asked. */
+    private static void firstMoment() throws Exception {
+        Probe.sentence("at first from;");
+        String[] names = {"shows", "value", "without", "kept", "day", "knows", "common", "sure"};
+        int[][] values = {{0, 0}, {0, 0, 0}, {0, 0, 0}, {0, 3, 0}, {1, 0, 0}, {0, 0, 0}, {1, 0, 0}, {0, 0, 0}};
+        for (int i = 0; i < names.length; i++) {
+            UnseenClock x = Probe.of(ONE);
+            x.row(0, 0, 0);
+            Probe.due(names[i] + " as MINUTE 0 begins", ask(x, names[i], values[i]), 7);
+            Probe.square(x, "square wide 3 long 3 minutes 5", "clock at 1 1 pace 1 over 1 shows 9 from 4", "person at 0 0 from 1");
+            Probe.due(names[i] + " as MINUTE 0 of another SQUARE begins", ask(x, names[i], values[i]), 4);
+        }
+        String[] finding = {"away", "keep", "pace", "hush", "all", "bell", "when"};
+        int[][] asked = {{0, 0, 7, 0}, {0, 0, 7}, {0, 0, 7}, {1, 7, 0, 0}, {1, 0, 7}, {1, 7}, {0, 7}};
+        for (int i = 0; i < finding.length; i++) {
+            UnseenClock x = Probe.of(ONE);
+            Probe.due(finding[i] + " as MINUTE 0 begins", ask(x, finding[i], asked[i]), 0);
+            Probe.square(x, "square wide 3 long 3 minutes 5", "clock at 1 1 pace 0 over 1 shows 9 from 4", "person at 0 0 from 1");
+            Probe.due(finding[i] + " as MINUTE 0 of another SQUARE begins", ask(x, finding[i], asked[i]), NONE);
+        }
     }
 
     // ---------------------------------------------------------------- the PLAIN course
@@ -290,6 +313,8 @@ public final class CallBoundaryTest {
         Probe.sentence("How many unlike numbers a CLOCK SHOWS as MINUTES begin (the end, too).");
         Probe.due("hours(0)", alone().hours(0), 41);
         Probe.due("hours(0) with a pace of 0", two.hours(0), 1);
+        Probe.due("hours(0) with a pace of 0, from 5", Probe.of(ALONE, "clock at 0 0 pace 0 over 1 shows 60 from 5").hours(0), 1);
+        Probe.due("hours(0) with a pace of 0, from 59", Probe.of(ALONE, "clock at 0 0 pace 0 over 1 shows 60 from 59").hours(0), 1);
         Probe.due("hours(0) of 2 that there are", Probe.of(ALONE, "clock at 0 0 pace 1 over 1 shows 2 from 1").hours(0), 2);
         Probe.due("hours(0), 59 and 0 and the end", Probe.of("square wide 2 long 2 minutes 5", "clock at 0 0 pace 1 over 5 shows 60 from 59").hours(0), 2);
     }
@@ -524,7 +549,16 @@ public final class CallBoundaryTest {
         Probe.due("meets(0, 1): 4, 5 and 6 in its column", x.meets(0, 1), 3);
         Probe.due("meets(0, 2): two rows off", x.meets(0, 2), 0);
         Probe.due("meets(0, 3): slanting, in the last MINUTE", x.meets(0, 3), 1);
-        Probe.due("meets(1, 4): from 11 0 on he is far off", x.meets(1, 4), 0);
+        Probe.due("meets(1, 4)", x.meets(1, 4), 0);
+        for (int[] cell : new int[][] {{5, 5}, {0, 0}, {11, 11}, {0, 11}, {11, 0}, {0, 1}, {11, 1}}) {
+            for (int i = 0; i < 144; i++) {
+                int across = i % 12;
+                int along = i / 12;
+                boolean near = Math.abs(across - cell[0]) < 2 && Math.abs(along - cell[1]) < 2;
+                UnseenClock two = Probe.of("square wide 12 long 12 minutes 5", "person at " + cell[0] + " " + cell[1] + " from 0", "person at " + across + " " + along + " from 0");
+                Probe.due("meets(0, 1), at " + cell[0] + " " + cell[1] + " and " + across + " " + along, two.meets(0, 1), near ? 1 : 0);
+            }
+        }
         Probe.due("meets(0, 5)", x.meets(0, 5), 0);
         Probe.due("meets(4, 5), both corners", x.meets(4, 5), 0);
         x.call(0, true);
@@ -629,6 +663,7 @@ public final class CallBoundaryTest {
         Probe.sentence("The pace of a CLOCK is this (0 .. 60) from now on: which it was.");
         Probe.dueRow("mends(0, ..)", new int[] {x.mends(0, 60), x.shows(0, 5), x.value(0, 5, 0), x.mends(0, 0), x.shows(0, 5), x.value(0, 5, 0)}, 7, 0, 300, 60, 0, 0);
         Probe.dueRow("mends(0, ..)", new int[] {x.mends(0, 61), x.mends(0, -1), x.mends(0, 0), x.shows(1, 5), x.mends(1, 60), x.shows(1, 5)}, -2, -2, 0, 0, 1, 25);
+        Probe.dueRow("asked ahead and behind", new int[] {x.shows(0, 5), x.among(0, 5, 0), x.mends(0, 1), x.shows(0, 5), x.among(0, 5, 0), x.among(0, 5, 5)}, 0, 1, 0, 5, 0, 1);
         UnseenClock back = Probe.of("square wide 2 long 2 minutes 5", "clock at 1 1 pace 7 over 1 shows 60 from 0");
         back.mends(0, 9);
         Probe.square(back, "square wide 2 long 2 minutes 5", "clock at 1 1 pace 8 over 1 shows 60 from 0");
@@ -724,6 +759,10 @@ public final class CallBoundaryTest {
                 Probe.dueRow("as it was", new int[] {x.count(2), x.count(8), x.count(6), x.mends(0, 9), x.mends(1, 8), x.call(2, false), x.at(0, 6)}, 7, 4, 17, 2, 2, 1, 200);
             }
         }
+        Probe.sentence("keeps SQUARE, paces, who is CALLED away");
+        for (int k = 0; k < 3; k++) {
+            wholeSquare(k);
+        }
         Probe.sentence("These are as IMAGE k has them: 0. -2: no such k; -6: it has nothing.");
         for (int k : new int[] {-1, 3, LOWEST, HIGHEST}) {
             Probe.leaves(-2, "back(" + k + ")", y -> y.back(k));
@@ -750,6 +789,65 @@ public final class CallBoundaryTest {
         x.image(2);
         x.image(0);
         Probe.dueRow("three, the first in place of another", new int[] {x.back(1), x.count(8), x.shows(0, 5), x.back(2), x.shows(0, 5), x.back(0), x.shows(0, 5)}, 0, 1, 3, 0, 4, 0, 4);
+    }
+
+    private static final String ODD =
+        "square wide 9 long 7 minutes 11;wall at 3 3;wall at 8 0;clock at 1 1 pace 5 over 3 shows 41 from 17;clock at 7 5 pace 7 over 4 shows 29 from 3;clock at 6 1 pace 1 over 1 shows 7 from 6;"
+        + "person at 1 4 from 2;go north 2;wait 3;look at 0 each 3 after 1;look at 2 seeing 0 is 19;person at 7 1 from 0;go south 3;go west 5;look at 1 always;look at 2 with 2;"
+        + "person at 6 5 from 1;wait 8;look at 1 unless 1;look at 2 with 1;look at 2 maybe 40";
+
+    /** Others that lie in the same rows: as large as can be, and unlike in each number. */
+    private static String other(int by) {
+        StringBuilder b = new StringBuilder("square wide 12 long 12 minutes " + (40 - by));
+        for (int i = 0; i < 12; i++) {
+            b.append(";wall at ").append(i).append(' ').append(i == 4 ? 11 : 2);
+        }
+        for (int i = 0; i < 4; i++) {
+            b.append(";clock at ").append(3 + i + by).append(" 4 pace ").append(30 + i + by).append(" over ").append(8 + i + by).append(" shows ").append(50 + i + by).append(" from ").append(30 + i + by);
+        }
+        for (int i = 0; i < 8; i++) {
+            b.append(";person at 4 ").append(i % 2 == 0 ? 3 : 5).append(" from ").append(by).append(";wait 12;go east 5;wait 1;go west 7;look at 3 always;look at ").append(by).append(" each 1 after 0;look at 1 unless 7;look at 2 maybe ").append(90 + by);
+        }
+        return b.toString();
+    }
+
+    /** What is asked of ODD, by calls that reach each number of it. */
+    private static String askAll(UnseenClock x) {
+        StringBuilder b = new StringBuilder();
+        for (int what = 0; what < 7; what++) {
+            b.append(x.count(what)).append(' ');
+        }
+        for (int person = 0; person < 3; person++) {
+            b.append("| ");
+            for (int minute = 0; minute < 11; minute++) {
+                b.append(x.at(person, minute)).append(' ');
+                for (int clock = 0; clock < 3; clock++) {
+                    b.append(x.looks(person, clock, minute));
+                }
+                b.append(' ');
+            }
+        }
+        for (int clock = 0; clock < 3; clock++) {
+            b.append("| ").append(x.spots(clock)).append(' ').append(x.value(clock, 11, 0)).append(' ').append(x.value(clock, 11, 1)).append(' ').append(x.value(clock, 11, 2)).append(' ').append(x.shows(clock, 11)).append(' ')
+                .append(x.shows(clock, 0)).append(' ').append(x.day(5, clock, 11)).append(' ').append(x.without(2, clock, 11)).append(' ').append(x.mends(clock, 9)).append(' ');
+        }
+        return b.append(x.courses()).toString();
+    }
+
+    private static void wholeSquare(int k) {
+        String fresh = askAll(Probe.of(ODD));
+        UnseenClock x = Probe.of(ODD);
+        x.image(k);
+        Probe.square(x, other(0));
+        Probe.due("shows(3, 40)", x.shows(3, 0), 33);
+        Probe.square(x, other(1));
+        Probe.due("count(3)", x.count(3), 4);
+        x.image((k + 1) % 3);
+        Probe.due("back(" + k + ")", x.back(k), 0);
+        Probe.dueSame("back(" + k + ")", askAll(x), fresh);
+        Probe.square(x, other(0));
+        Probe.due("back(" + k + ") once more", x.back(k), 0);
+        Probe.dueSame("back(" + k + ") once more", askAll(x), fresh);
     }
 
     private static void rows() {

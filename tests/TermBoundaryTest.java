@@ -190,6 +190,15 @@ public final class TermBoundaryTest {
             Probe.dueSame("looks at 0", looks(x, 0, 0, 7), "0101010");
             Probe.dueSame("looks at 1 seeing 0 is " + n, looks(x, 0, 1, 7), due[n]);
         }
+        StringBuilder late = new StringBuilder("square wide 3 long 3 minutes 7;clock at 0 0 pace 0 over 1 shows 9 from 5;clock at 2 0 pace 0 over 1 shows 9 from 6;clock at 0 2 pace 0 over 1 shows 9 from 7;clock at 2 2 pace 0 over 1 shows 9 from 8");
+        for (int i = 0; i < 7; i++) {
+            late.append(";person at 1 1 from 0;look at ").append(i % 4).append(" always");
+        }
+        UnseenClock eighth = Probe.of(late + ";person at 1 1 from 0;wait 6;look at 3 each 3 after 1;look at 2 seeing 3 is 8;look at 1 seeing 3 is 7;look at 0 seeing 2 is 7");
+        Probe.dueSame("the eighth looks at 3", looks(eighth, 7, 3, 7), "0100100");
+        Probe.dueSame("the eighth looks at 2, seeing 3 is 8", looks(eighth, 7, 2, 7), "0010010");
+        Probe.dueSame("the eighth looks at 1, seeing 3 is 7", looks(eighth, 7, 1, 7), "0000000");
+        Probe.dueSame("the eighth looks at 0, seeing 2 is 7", looks(eighth, 7, 0, 7), "0001001");
         Probe.dueSame("itself: never, as he never looked", looking("seeing 0 is 0"), "0".repeat(40));
         UnseenClock once = Probe.of("square wide 3 long 3 minutes 7", "clock at 1 1 pace 1 over 1 shows 9 from 0", "person at 0 0 from 0", "wait 4", "look at 0 each 40 after 2", "look at 0 seeing 0 is 2");
         Probe.dueSame("itself: again and again, till he is gone", looks(once, 0, 0, 7), "0011100");
@@ -269,6 +278,11 @@ public final class TermBoundaryTest {
         Probe.dueRow("unless himself", new int[] {odd.looks(0, 0, 0), odd.eyes(0, 0), odd.courses(), odd.among(0, 1, 0)}, 2, 0, 2, 1);
         Probe.sentence("The PLAIN course takes each OPEN one as no.");
         Probe.dueRow("shows(0, 1)", new int[] {ring.shows(0, 1), odd.shows(0, 1), two.shows(0, 1), two.shows(1, 1)}, 1, 1, 1, 1);
+        // also where all COURSES were asked for just ahead
+        UnseenClock asked = Probe.of(square, clock, "person at 0 0 from 0", "wait 4", "look at 0 with 0", "person at 0 0 from 0");
+        Probe.dueRow("asked behind courses()", new int[] {asked.courses(), asked.without(1, 0, 5), asked.courses(), asked.kept(0, 0, 5), asked.courses(), asked.day(1, 0, 5), asked.away(0, 5, 5, 1), asked.pace(0, 5, 5)}, 32, 5, 32, 5, 32, 5, 0, 1);
+        Probe.due("asked behind a CALL and courses()", asked.call(1, true), 1);
+        Probe.dueRow("asked behind a CALL and courses()", new int[] {asked.courses(), asked.hush(1, 5, 5, 1), asked.all(1, 5, 5), asked.keep(0, 5, 5), asked.open(), asked.shows(0, 5)}, 32, 0, 0, 0, 5, 5);
     }
 
     private static void courses() {
@@ -292,8 +306,39 @@ public final class TermBoundaryTest {
         Probe.sentence("SIGHT: of a PERSON in a course: for each MINUTE at which CLOCKS he looks, and what they SHOW.");
         UnseenClock last = Probe.of("square wide 3 long 3 minutes 5", "clock at 1 1 pace 1 over 1 shows 60 from 0", "person at 0 0 from 4", "look at 0 with 0", "person at 2 2 from 4", "look at 0 always");
         Probe.dueRow("the last MINUTE belongs to it, the end does not", new int[] {last.courses(), last.sights(0), last.sights(1), last.alike(1), last.knows(1, 0, 5), last.among(0, 5, 4)}, 2, 2, 1, 2, 4, 2);
+        sightOfEachSet();
         UnseenClock wrapped = Probe.of("square wide 3 long 3 minutes 5", "clock at 1 1 pace 2 over 1 shows 2 from 0", "person at 0 0 from 0", "look at 0 with 0", "person at 2 2 from 3", "look at 0 always");
         Probe.dueRow("what it SHOWS, not VALUE", new int[] {wrapped.courses(), wrapped.sights(1), wrapped.knows(1, 0, 5)}, 2, 1, 0);
+    }
+
+    /** Two COURSES that differ by one bit of what one CLOCK SHOWS in MINUTE 1: he tells them apart only if he looks at that one then. */
+    private static void sightOfEachSet() {
+        String[] corners = {"0 0", "2 0", "0 2", "2 2"};
+        for (int which = 0; which < 4; which++) {
+            for (int bit = 0; bit < 6; bit++) {
+                StringBuilder b = new StringBuilder("square wide 3 long 3 minutes 5");
+                for (int clock = 0; clock < 4; clock++) {
+                    b.append(";clock at ").append(corners[clock]).append(" pace ").append(1 << bit).append(" over 1 shows 60 from 0");
+                }
+                b.append(";person at 1 1 from 0;look at ").append(which).append(" with 0");
+                for (int set = 0; set < 16; set++) {
+                    StringBuilder looks = new StringBuilder(";person at 1 1 from 1");
+                    for (int clock = 0; clock < 4; clock++) {
+                        looks.append((set >> clock & 1) != 0 ? ";look at " + clock + " always" : "");
+                    }
+                    UnseenClock x = Probe.of(b.toString() + looks);
+                    int unlike = (set >> which & 1) != 0 ? 2 : 1;
+                    Probe.dueRow("CLOCK " + which + " SHOWS " + (1 << bit) + " or 0, looks at " + set, new int[] {x.courses(), x.sights(1), x.alike(1), x.learns(1, which, 1)}, 2, unlike, 3 - unlike, unlike == 2 ? 2 : NONE);
+                }
+            }
+        }
+        UnseenClock watched = Probe.of("square wide 3 long 3 minutes 5", "clock at 1 1 pace 1 over 1 shows 60 from 0", "person at 0 0 from 0", "wait 2", "look at 0 with 0", "person at 2 2 from 4", "look at 0 always", "person at 2 2 from 1",
+            "look at 0 always", "person at 2 2 from 0");
+        // in MINUTE 1 it SHOWS 1 or 0; it stands still then by 2, so that 0's look in it is nothing to it, and SHOWS 3, 2 or 1 in MINUTE 4
+        Probe.dueRow("sights(..)", new int[] {watched.courses(), watched.sights(0), watched.sights(1), watched.sights(2), watched.sights(3)}, 8, 8, 3, 2, 1);
+        Probe.dueRow("alike(..)", new int[] {watched.alike(0), watched.alike(1), watched.alike(2), watched.alike(3)}, 1, 2, 4, 8);
+        Probe.dueRow("both(.., 0, 2): in MINUTE 2 it SHOWS 1", new int[] {watched.both(1, 3, 0, 2), watched.both(3, 2, 0, 2), watched.both(2, 1, 0, 2), watched.both(3, 1, 0, 2)}, 1, 1, 1, 1);
+        Probe.dueRow("both(.., 0, 3): 2 or 1 by 0's look in MINUTE 2", new int[] {watched.both(3, 2, 0, 3), watched.both(2, 1, 0, 3), watched.both(3, 0, 0, 3)}, NONE, 2, 2);
     }
 
     // ---------------------------------------------------------------- IV to VI
@@ -305,6 +350,12 @@ public final class TermBoundaryTest {
         Probe.dueRow("common(.., 0, 5)", new int[] {x.common(0, 0, 5), x.common(1, 0, 5), x.common(2, 0, 5), x.common(3, 0, 5)}, 5, 5, NONE, NONE);
         Probe.dueRow("common(.., 1, 5)", new int[] {x.common(0, 1, 5), x.common(1, 1, 5), x.common(2, 1, 5), x.common(3, 1, 5)}, 5, NONE, 5, NONE);
         Probe.dueRow("common(3, .., 0)", new int[] {x.common(3, 0, 0), x.common(3, 1, 0)}, 0, 0);
+        // 0 may look in MINUTE 0, 1 in MINUTE 1; 2 looks at clock 1 in MINUTE 3 just if both did, and to that course one comes by two steps
+        UnseenClock steps = Probe.of("square wide 3 long 3 minutes 5", "clock at 0 0 pace 1 over 1 shows 9 from 0", "clock at 2 2 pace 1 over 1 shows 9 from 0", "person at 1 1 from 0", "look at 0 with 0", "person at 1 1 from 1", "look at 0 with 1",
+            "person at 1 1 from 2", "wait 1", "look at 0 each 40 after 2", "look at 1 seeing 0 is 0");
+        Probe.dueRow("by which COURSES", new int[] {steps.courses(), steps.among(1, 5, 5), steps.among(1, 5, 4)}, 4, 3, 1);
+        Probe.dueRow("common(.., 1, 5)", new int[] {steps.common(0, 1, 5), steps.common(1, 1, 5), steps.common(2, 1, 5), steps.common(3, 1, 5), steps.common(4, 1, 5), steps.common(2, 1, 5), steps.common(1, 1, 5)}, 5, 5, 5, NONE, 5, 5, 5);
+        Probe.dueRow("knows(.., 1, 5)", new int[] {steps.knows(0, 1, 5), steps.knows(1, 1, 5), steps.knows(2, 1, 5)}, 5, 5, 5);
         Probe.sentence("KNOWN to somebody in the PLAIN course is what is so in all COURSES that have the same SIGHT of his.");
         Probe.dueRow("knows(.., .., 5)", new int[] {x.knows(0, 0, 5), x.knows(0, 1, 5), x.knows(1, 0, 5), x.knows(1, 1, 5), x.both(0, 1, 0, 5)}, 5, NONE, NONE, 5, 5);
     }
@@ -338,7 +389,25 @@ public final class TermBoundaryTest {
         Probe.due("call(1, true)", x.call(1, true), 1);
         Probe.dueRow("both not there", new int[] {x.eyes(0, 0), x.shows(0, 5), x.count(4), x.count(8), x.day(1, 0, 5)}, 0, 5, 2, 3, 5);
         x.call(0, false);
+        eachCalledAway();
         Probe.dueRow("there again", new int[] {x.open(), x.at(0, 4), x.day(1, 0, 5), x.count(8)}, 5, 0, 0, 2);
+    }
+
+    private static void eachCalledAway() {
+        StringBuilder b = new StringBuilder("square wide 3 long 3 minutes 5;clock at 1 1 pace 1 over 1 shows 9 from 0");
+        for (int i = 0; i < 8; i++) {
+            b.append(";person at ").append(i % 2 * 2).append(" 0 from 0;look at 0 always");
+        }
+        UnseenClock x = Probe.of(b.toString());
+        for (int away = 0; away < 8; away++) {
+            x.call(away, true);
+            for (int person = 0; person < 8; person++) {
+                boolean there = person != away;
+                Probe.dueRow(away + " is away, " + person, new int[] {x.at(person, 0), x.sees(person, 0, 0), x.looks(person, 0, 0)}, there ? person % 2 * 2 : NONE, there ? 1 : 0, there ? 1 : 0);
+            }
+            Probe.due("eyes(0, 0)", x.eyes(0, 0), 7);
+            x.call(away, false);
+        }
     }
 
     private static int draw(long seed, int which) {

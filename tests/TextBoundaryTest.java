@@ -229,10 +229,37 @@ public final class TextBoundaryTest {
             Probe.due("at(1, 6)", x.at(1, 6), 303);
             Probe.due("looks(0, 0, 0)", x.looks(0, 0, 0), 0);
             Probe.due("looks(1, 0, 6)", x.looks(1, 0, 6), 0);
+            Probe.due("sees(0, 0, 0)", x.sees(0, 0, 0), 1);
+            Probe.due("sees(0, 0, 5)", x.sees(0, 0, 5), 0);
+            Probe.due("sees(1, 0, 5)", x.sees(1, 0, 5), 0);
             Probe.due("shows(0, 7)", x.shows(0, 7), 7);
+            Probe.due("courses()", x.courses(), 1);
             Probe.due("day(1, 0, 7)", x.day(1, 0, 7), 7);
             Probe.due("shows(1, 0)", x.shows(1, 0), -2);
             Probe.due("spots(0)", x.spots(0), 12);
+        }
+        habitsInPlace();
+    }
+
+    /** A look that hangs on others, where ahead there were more: these would hold. */
+    private static void habitsInPlace() {
+        String more = S + CLOCK + PERSON + "look at 0 with 1;look at 0 unless 7;look at 0 unless 6;look at 0 unless 5;person at 2 2 from 0;look at 0 with 0;look at 0 unless 7;";
+        String one = S + CLOCK + PERSON + "look at 0 with 1;person at 2 2 from 0;look at 0 with 0;";
+        UnseenClock x = new UnseenClock();
+        for (int i = 0; i < 3; i++) {
+            Probe.put(x, more);
+            x.square();
+            Probe.due("eyes(0, 0)", x.eyes(0, 0), 2);
+            Probe.due("courses()", x.courses(), 1);
+            Probe.due("shows(0, 6)", x.shows(0, 6), 5);
+            for (int again = 0; again < 2; again++) {
+                Probe.put(x, one);
+                x.square();
+                Probe.due("eyes(0, 0)", x.eyes(0, 0), 0);
+                Probe.due("open()", x.open(), 1);
+                Probe.due("courses()", x.courses(), 2);
+                Probe.due("shows(0, 6)", x.shows(0, 6), 6);
+            }
         }
     }
 
@@ -533,6 +560,7 @@ public final class TextBoundaryTest {
                 faulty("square wide 5" + (char) sign + " long 4 minutes 6;", 1, 13);
             }
         }
+        words();
         faulty("squarewide 5 long 4 minutes 6;", 1, 0);
         faulty("square wide 1 2 long 4 minutes 6;", 2, 12);
         faulty("square wide 5 long 4 minutes 6a;", 1, 30);
@@ -543,6 +571,34 @@ public final class TextBoundaryTest {
         faulty(S + "z", 1, 31);
         faulty(S + "0", 1, 31);
         faulty(S + "9", 1, 31);
+    }
+
+    /** Each word of the document, whole, and with another first or last letter, or one more, or one less. */
+    private static void words() {
+        String head = S + CLOCK + PERSON;
+        String[] texts = {
+            "square wide 5 long 4 minutes 6;", S + "wall at 2 2;", S + "clock at 1 1 pace 1 over 1 shows 9 from 0;", S + "person at 0 0 from 0;", head + "go north 1;", head + "go east 1;", head + "go south 1;",
+            head + "go west 1;", head + "wait 1;", head + "look at 0 always;", head + "look at 0 each 1 after 0;", head + "look at 0 seeing 0 is 0;", head + "look at 0 with 0;", head + "look at 0 unless 0;", head + "look at 0 maybe 0;"
+        };
+        for (String text : texts) {
+            int from = text.lastIndexOf(';', text.length() - 2) + 1;
+            java.util.regex.Matcher word = java.util.regex.Pattern.compile("[a-z]+").matcher(text.substring(from));
+            taken(text);
+            while (word.find()) {
+                int place = from + word.start();
+                int end = from + word.end();
+                String ahead = text.substring(0, place);
+                String behind = text.substring(end);
+                String told = word.group();
+                String[] others = {
+                    (char) (told.charAt(0) == 'z' ? 'a' : told.charAt(0) + 1) + told.substring(1), told.substring(0, told.length() - 1) + (char) (told.charAt(told.length() - 1) - 1),
+                    told + "z", told + "a", "a" + told, "z" + told, told.substring(1), told.substring(0, told.length() - 1), told.toUpperCase()
+                };
+                for (String other : others) {
+                    faulty(ahead + other + behind, 1, place);
+                }
+            }
+        }
     }
 
     private static void placesOfFaults() {
