@@ -777,9 +777,10 @@ public final class CallBoundaryTest {
             Probe.square(x, ONE);
             Probe.put(x, "?");
             x.square();
+            Probe.put(x, "??");
             x.row(1, 0, 5);
             Probe.due("back(" + k + ") to no SQUARE", x.back(k), 0);
-            Probe.dueRow("no SQUARE, and what is in no IMAGE stays", new int[] {x.open(), x.count(6), x.count(7), x.count(9), x.fault(0), x.fault(1)}, -2, 0, 1, 1, 1, 0);
+            Probe.dueRow("no SQUARE, and what is in no IMAGE stays", new int[] {x.open(), x.count(6), x.count(7), x.count(9), x.fault(0), x.fault(1)}, -2, 0, 2, 1, 1, 0);
         }
         UnseenClock x = Probe.of(ONE);
         x.image(0);

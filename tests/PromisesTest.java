@@ -120,15 +120,19 @@ public final class PromisesTest {
         due("count(7)", x.count(7), 2381);
         due("end(2380)", x.end(2380), 2380);
         due("feed up to 2400", x.feed(0x20202020, 0x20202020, 0x20202020, 0x20202020, 0x2020203B), 2400);
-        due("square() of blanks and a ;", x.square(), -4);
-        due("its place", x.fault(1), 2399);
         promise = 3;
         due("end(-1)", x.end(-1), NONE);
         due("end(2401)", x.end(2401), NONE);
         due("count(7)", x.count(7), 2400);
         due("end(2400)", x.end(2400), 2400);
-        due("end(2399)", x.end(2399), 2399);
         promise = 4;
+        due("square() of blanks and a ;", x.square(), -4);
+        due("its place", x.fault(1), 2399);
+        due("count(7)", x.count(7), 0);
+        for (int i = 1; i <= 120; i++) {
+            x.feed(0x20202020, 0x0A202020, 0x20202020, 0x20202020, 0x20202020);
+        }
+        due("end(2399)", x.end(2399), 2399);
         due("square() of blanks", x.square(), 0);
         due("count(7)", x.count(7), 0);
         due("open()", x.open(), -2);
@@ -145,10 +149,10 @@ public final class PromisesTest {
         due("square() with a FAULT", x.square(), -4);
         due("count(2) stays", x.count(2), 5);
         due("count(8) stays", x.count(8), 4);
-        due("count(7) stays", x.count(7), 19);
-        due("end(18)", x.end(18), 18);
-        put(x, " 5 minutes 7;");
-        due("square() of the TAPE that stayed", x.square(), 1);
+        due("count(7), empty then", x.count(7), 0);
+        due("end(19)", x.end(19), NONE);
+        put(x, "square wide 5 long 5 minutes 7;");
+        due("square() behind a FAULT", x.square(), 1);
         due("count(2)", x.count(2), 7);
         due("square() of nothing", x.square(), 0);
         for (int i = 0; i < 7; i++) {

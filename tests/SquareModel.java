@@ -506,6 +506,7 @@ public final class SquareModel {
     public int square() {
         StringBuilder b = new StringBuilder();
         for (int z : tape) b.append((char) z);
+        tape.clear();
         try {
             Sq read = readText(b.toString());
             faultKind = 0;
@@ -513,7 +514,6 @@ public final class SquareModel {
             sq = read;
             gone = new HashSet<>();
             paces = read.clocks.stream().mapToInt(c -> c[2]).toArray();
-            tape.clear();
             tableCached = null;
             stale();
             return sq.lines;

@@ -12,6 +12,7 @@ public final class TextBoundaryTest {
         feeding();
         ending();
         squares();
+        textsInARow();
         squaresInPlace();
         latestFault();
         firstLine();
@@ -48,14 +49,13 @@ public final class TextBoundaryTest {
         return x;
     }
 
-    /** The FAULT and its place, and that all stays: the SQUARE, paces, who is away, IMAGES, SLOTS, the TAPE. */
+    /** The FAULT and its place, that all stays (the SQUARE, paces, who is away, IMAGES, SLOTS), and that the TAPE is empty. */
     private static void faulty(String text, int fault, int place) {
         UnseenClock x = Probe.standing();
         UnseenClock twin = Probe.standing();
         x.end(0);
         twin.end(0);
         Probe.put(x, text);
-        Probe.put(twin, text);
         Probe.due("square() of '" + text + "'", x.square(), -4);
         Probe.due("fault(0) of '" + text + "'", x.fault(0), fault);
         Probe.due("fault(1) of '" + text + "'", x.fault(1), place);
@@ -203,7 +203,52 @@ public final class TextBoundaryTest {
         Probe.put(x, ";");
         Probe.due("square() of a ; alone", x.square(), -4);
         Probe.due("open(): still no SQUARE", x.open(), -2);
-        Probe.due("count(7)", x.count(7), 1);
+        Probe.due("count(7)", x.count(7), 0);
+        Probe.put(x, S);
+        Probe.due("square() of a text behind it", x.square(), 1);
+    }
+
+    /** One text behind the other, each cut to its own length, as ../shared/tests tell them: none is cleared away by end(0). */
+    private static void textsInARow() {
+        Probe.sentence("The TAPE (empty then)");
+        String five = "square wide 5 long 5 minutes 6;";
+        String[] texts = {
+            "square wide 1", five + "wall at 1 1;wall at 1 1", five + "wall at 1 1?", five + "wall at 5", five + "wait", five + "clock at 0 0 pace 61", five + "person at 0 0 from 0;look at 0",
+            five + "square", five + "clock at 0 0 pace 1 over 1 shows 9 from 9", five + "person at 0 0 from 0;" + "wait 1;".repeat(6) + "wait", "wall"
+        };
+        int[] faults = {2, 12, 2, 53, 1, 42, 2, 39, 2, 31, 2, 49, 2, 60, 1, 31, 2, 71, 3, 94, 1, 0};
+        UnseenClock x = new UnseenClock();
+        for (int i = 0; i < texts.length; i++) {
+            tell(x, texts[i]);
+            Probe.due("square() of '" + texts[i] + "'", x.square(), -4);
+            Probe.due("fault(0) of '" + texts[i] + "'", x.fault(0), faults[2 * i]);
+            Probe.due("fault(1) of '" + texts[i] + "'", x.fault(1), faults[2 * i + 1]);
+        }
+        Probe.due("count(6)", x.count(6), 0);
+        tell(x, five + CLOCK);
+        Probe.due("square()", x.square(), 2);
+        tell(x, "wall");
+        Probe.due("square()", x.square(), -4);
+        Probe.dueRow("all stays, and the TAPE is empty", new int[] {x.count(2), x.count(3), x.count(6), x.count(7), x.shows(0, 6)}, 6, 1, 2, 0, 6);
+        Probe.due("end(1)", x.end(1), NONE);
+        Probe.due("square() of the empty TAPE", x.square(), 0);
+        Probe.due("fault(0)", x.fault(0), 0);
+        Probe.due("open(): no SQUARE", x.open(), -2);
+    }
+
+    private static void tell(UnseenClock x, String text) {
+        int bytes = 0;
+        for (int i = 0; i < text.length(); i += 20) {
+            int[] v = new int[5];
+            for (int j = 0; j < 20 && i + j < text.length(); j++) {
+                v[j / 4] |= text.charAt(i + j) << 24 - 8 * (j % 4);
+            }
+            bytes += 20;
+            Probe.due("feed()", x.feed(v[0], v[1], v[2], v[3], v[4]), bytes);
+        }
+        if (bytes != text.length()) {
+            Probe.due("end()", x.end(text.length()), text.length());
+        }
     }
 
     /** The rows of an object are used again: nothing of another text may be left in them, read whole or to a FAULT. */
@@ -270,7 +315,7 @@ public final class TextBoundaryTest {
         x.square();
         Probe.due("fault(0)", x.fault(0), 2);
         Probe.due("fault(1)", x.fault(1), 39);
-        Probe.due("end(31)", x.end(31), 31);
+        Probe.put(x, S);
         Probe.due("fault(0), of the square() ahead", x.fault(0), 2);
         x.square();
         Probe.due("fault(0)", x.fault(0), 0);
@@ -634,9 +679,11 @@ public final class TextBoundaryTest {
         x.end(38);
         Probe.due("square()", x.square(), -4);
         Probe.due("fault(1): the end", x.fault(1), 38);
+        Probe.put(x, S);
         x.end(30);
         Probe.due("square()", x.square(), -4);
         Probe.due("fault(1): the end", x.fault(1), 30);
+        Probe.put(x, S);
         x.end(29);
         x.square();
         Probe.due("fault(0): no number at all", x.fault(0), 1);

@@ -127,12 +127,13 @@ public final class UnseenClock {
 
     public int square() {
         reader.readSquare(tape, tapeLength, draft);
+        // ahead of the FAULT's answer: what stays then is the SQUARE, and the next text is told on an empty TAPE
+        tapeLength = 0;
         faultKind = reader.fault;
         faultPlace = reader.place;
         if (faultKind != 0) {
             return FAULTY;
         }
-        tapeLength = 0;
         draft.walkAll();
         Plan former = plan;
         plan = draft;
